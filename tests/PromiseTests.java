@@ -88,6 +88,9 @@ public final class PromiseTests {
         CHECK.fine("62 meanPrice of 500 WEEKS", x.meanPrice(0, 1, 500), x);
         CHECK.same("3 top: 41 rounds of 144, 3 5 7 9 11 13 15 17", x.top(), 1496);
         CHECK.same("4 bottom", x.bottom(), 125);
+        CHECK.fine("62 meanPrice of one WEEK", x.meanPrice(0, 5, 5), x);
+        CHECK.same("3 top", x.top(), 11);
+        CHECK.fine("62 meanPrice of 500 WEEKS", x.meanPrice(0, 1, 500), x);
         CHECK.refused("62 to ahead of from", x.meanPrice(0, 4, 3), x, 1);
         CHECK.refused("62 501", x.meanPrice(0, 4, 501), x, 1);
         CHECK.refused("62 -1", x.meanPrice(0, -1, 3), x, 1);
@@ -222,6 +225,7 @@ public final class PromiseTests {
         CHECK.same("10 AT", x.rock(0, 2), 11);
         CHECK.fine("10 six rocks", Check.sky(x, "rock a" + ROCK + "rock b" + ROCK + "rock c" + ROCK + "rock d" + ROCK
                 + "rock e" + ROCK + "law sent;rock fffffggg" + ROCK), x, 6);
+        CHECK.fine("10 the least numbers", Check.sky(x, "rock z far 0 round 1 at 0 rank 0 price 0 swing 0;"), x, 1);
         CHECK.fine("10 a sky without rocks", Check.sky(x, "law last;"), x, 0);
         CHECK.same("10 law", x.told(2), 1);
     }
@@ -541,6 +545,7 @@ public final class PromiseTests {
         CHECK.fine("27 from there on", y.closest(1, 2, 2, 6), y, 2);
         CHECK.fine("27 the next round", y.closest(1, 2, 3, 6), y, 25);
         CHECK.refused("27 none", y.closest(1, 2, 0, 5), y, 6);
+        CHECK.fine("27 in 400: b at 3, c at 8, LIGHT 11", y.closest(1, 2, 400, 11), y, 400);
         CHECK.refused("27 none more", y.closest(1, 2, 400, 6), y, 6);
         CHECK.refused("27 41", y.closest(1, 2, 0, 41), y, 1);
         CHECK.fine("27 40", y.closest(1, 2, 7, 40), y, 7);
@@ -619,6 +624,7 @@ public final class PromiseTests {
         CHECK.refused("33 tray", x.early(0, 0, 4), x, 1);
         x.tray(1, 0, 2);
         x.write(1, 0, -1);
+        CHECK.isTrue("33 its own WEEK, too", (x.early(2, 397, 0) & 4) == 0);
         CHECK.refused("33 too few, ahead of what can't be", x.early(0, 0, 1), x, 3);
         x.write(0, 2, -1);
         CHECK.refused("33 -1", x.early(0, 0, 0), x, 5);
@@ -771,6 +777,14 @@ public final class PromiseTests {
         SlowWorlds none = new SlowWorlds();
         CHECK.refused("47 no rocks", none.peace(0), none, 6);
         CHECK.fine("50 no orders", none.idle(), none, 0);
+        SlowWorlds one = Check.under("rock a far 0 round 1 at 0;");
+        CHECK.refused("47 no orders", one.peace(0), one, 6);
+        one.pass(3);
+        one.order(0);
+        one.order(0);
+        CHECK.fine("47 one alone", one.peace(0), one, 3);
+        CHECK.fine("42 first: of several the first given", one.rules(0, 3), one, 0);
+        CHECK.fine("50 the second", one.idle(), one, 1);
         CHECK.fine("46 no orders", none.disputes(), none, 0);
     }
 
@@ -970,6 +984,14 @@ public final class PromiseTests {
         CHECK.fine("70 uniform", x.uniform(), x, 1);
         x.pass(7);
         CHECK.fine("70 uniform", x.uniform(), x, 8);
+        x.wear(0, 1);
+        CHECK.fine("70 not now", x.uniform(), x, 7);
+        x.wear(1, 1);
+        x.wear(2, 1);
+        CHECK.fine("70 all new", x.uniform(), x, 8);
+        x.wear(0, 0);
+        x.wear(1, 0);
+        x.wear(2, 0);
         CHECK.refused("64 not yet", x.wore(0, 10), x, 1);
         CHECK.refused("64 -1", x.wore(0, -1), x, 1);
         CHECK.refused("64 rock", x.wore(3, 0), x, 1);
