@@ -18,6 +18,20 @@ final class Check {
         same(what, got ? 1 : 0, 1);
     }
 
+    void sameText(String what, String got, String due) {
+        asked++;
+        if (!got.equals(due)) {
+            wrong++;
+            String[] ours = got.split("\n");
+            String[] theirs = due.split("\n");
+            int at = 0;
+            while (at < Math.min(ours.length, theirs.length) - 1 && ours[at].equals(theirs[at])) {
+                at++;
+            }
+            System.out.println(what + ": " + ours[at] + ", due is " + theirs[at]);
+        }
+    }
+
     /** A call that is refused: it gives NONE (or false, told as 0) and that STATUS. */
     void refused(String what, long got, SlowWorlds x, int status) {
         same(what, got, SlowWorlds.NONE);
