@@ -216,6 +216,7 @@ public final class EdgeNewsTests {
         SlowWorlds same = Check.under("rock a far 1 round 1 at 0;rock b far 1 round 1 at 0;rock c far 1 round 1 at 0;");
         CHECK.fine("34 b and c", same.latest(0, 0), same, 1);
         CHECK.fine("34 a and c", same.latest(1, 0), same, 0);
+        CHECK.fine("34 a and b", same.latest(2, 0), same, 0);
         SlowWorlds alone = Check.under("rock a far 1 round 1 at 0;");
         CHECK.fine("34 itself", alone.latest(0, 400), alone, 0);
         SlowWorlds iced = Check.under(ICED);

@@ -377,7 +377,7 @@ public final class EdgeTextTests {
         faults("ice from 0 to 1;", 2, 4);
     }
 
-    /** Each TOKEN of a text in turn is left out with all behind it, and put to what no TOKEN begins with, to < and to 9999. */
+    /** Each TOKEN of a text in turn is left out with all behind it, and put to what can't stand there. */
     private static void everyToken(String head, String text, boolean years) {
         List<Integer> places = new ArrayList<>();
         String[] tokens = text.split(" ");
@@ -395,6 +395,9 @@ public final class EdgeTextTests {
             faultsEither(ahead + "12345" + behind, 1, place, years);
             faultsEither(ahead + (tokens[i].matches("[<>=]") ? ";" : "<") + behind, 2, place, years);
             faultsEither(ahead + (tokens[i].matches("[0-9]+") ? "a" : "1") + behind, 2, place, years);
+            if (years && !tokens[i].equals(";")) {
+                faultsYears(ahead + ";" + behind, 2, place);
+            }
             if (i > 0) {
                 faultsEither(ahead, 2, place, years);
                 faultsEither(ahead.trim(), 2, ahead.trim().length(), years);
