@@ -266,6 +266,13 @@ public final class EdgeFullTests {
         for (int what = 0; what < 5; what++) {
             CHECK.fine("72 a short one, " + what, x.lived(what), x, 0);
         }
+        // A loop that a stop, or the 200th STEP, left open is not gone on with.
+        Check.years(x, "loop 99;loop 99;loop 99;stop;end;end;end;");
+        CHECK.fine("71 stopped", x.live(0), x, 4);
+        Check.years(x, "when wears a;when wears a;when wears a;wear b 1;end;end;end;");
+        CHECK.fine("71 once each", x.live(0), x, 4);
+        Check.years(x, "loop 2;wear b 1;end;");
+        CHECK.fine("71 twice", x.live(0), x, 3);
     }
 
     /** 75: by whom ORDERS were given, when, and who KNOWS them, all is as at the MARK. */

@@ -343,6 +343,11 @@ public final class EdgeOrderTests {
             x.order(0);
         }
         CHECK.fine("50 all but the first", x.idle(), x, 19);
+        SlowWorlds iced = Check.under(ICED);
+        iced.order(0);
+        CHECK.fine("50 b never KNOWS it, a does", iced.idle(), iced, 0);
+        iced.order(0);
+        CHECK.fine("50 the second nowhere", iced.idle(), iced, 1);
         SlowWorlds last = Check.under(TWO + "law last;");
         last.order(0);
         last.order(0);
@@ -495,6 +500,9 @@ public final class EdgeOrderTests {
         CHECK.refused("56 by a WEEK ahead", x.cheap(0, 100, 2, 99), x, 6);
         CHECK.fine("56 itself at once", x.cheap(0, 100, 0, 100), x, 0);
         CHECK.refused("56 itself, a WEEK ahead", x.cheap(0, 100, 0, 99), x, 6);
+        // To c in 4 by b (2 and 2) and by d (3 and 1), which sends later.
+        SlowWorlds both = Check.under("rock a far 0 round 1 at 0;rock b far 2 round 1 at 0;rock c far 4 round 1 at 0;rock d far 3 round 1 at 0;ice b d from 0 to 400;");
+        CHECK.fine("56 the least of one WEEK", both.cheap(0, 0, 2, 4), both, 8);
         SlowWorlds far = Check.under("rock a far 20 round 1 at 0;rock b far 20 round 1 at 6;");
         CHECK.fine("56 the dearest", far.cheap(0, 400, 1, 420), far, 400);
         CHECK.refused("56 not by then", far.cheap(0, 400, 1, 419), far, 6);
