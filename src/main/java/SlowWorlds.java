@@ -1140,8 +1140,9 @@ public final class SlowWorlds {
         }
 
         int heading(int rock, int week) {
-            int round = Math.max(1, facts[rock * FACTS + ROUND]);
-            return (facts[rock * FACTS + AT] + DIRECTIONS * week / round) % DIRECTIONS;
+            int round = facts[rock * FACTS + ROUND];
+            int gone = round < 1 ? 0 : DIRECTIONS * week / round;
+            return (facts[rock * FACTS + AT] + gone) % DIRECTIONS;
         }
 
         /** LIGHT between two ROCKS that are in those two DIRECTIONS. */
@@ -1149,11 +1150,15 @@ public final class SlowWorlds {
             if (a == b) {
                 return 0;
             }
+            // No call from here on, not even of the library: live() is eight calls deep here already.
             int farA = facts[a * FACTS + FAR];
             int farB = facts[b * FACTS + FAR];
-            int turn = Math.abs(headingA - headingB);
-            int steps = Math.min(turn, DIRECTIONS - turn);
-            return Math.max(1, Math.abs(farA - farB) + steps * Math.min(farA, farB) / 6);
+            int nearer = farA < farB ? farA : farB;
+            int farther = farA < farB ? farB : farA;
+            int turn = headingA < headingB ? headingB - headingA : headingA - headingB;
+            int steps = turn > DIRECTIONS / 2 ? DIRECTIONS - turn : turn;
+            int light = farther - nearer + steps * nearer / 6;
+            return light < 1 ? 1 : light;
         }
 
         int lightBetween(int a, int week, int b, int then) {
@@ -1402,8 +1407,10 @@ public final class SlowWorlds {
             }
             if ((opened >> couple & 1) == 0) {
                 opened |= 1L << couple;
-                Arrays.fill(arrivals, row, row + ROW, UNKNOWN);
-                Arrays.fill(looks, row, row + ROW, UNKNOWN);
+                for (int cell = row; cell < row + ROW; cell++) {
+                    arrivals[cell] = UNKNOWN;
+                    looks[cell] = UNKNOWN;
+                }
             }
             return row;
         }
